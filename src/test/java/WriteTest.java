@@ -433,6 +433,30 @@ public final class WriteTest {
         Expect.same("60000 bytes, size", 60000, x::size);
         Expect.unsupported("one page more", x::ship);
         Expect.same("the file still closes", 60040, x::close);
+        x.begin(0, 34);
+        for (int i = 1; i <= 1248; i++) {
+            x.ship();
+        }
+        Expect.unsupported("60001 bytes", x::ship);
+        shipTooLongAfterAnotherFile();
+    }
+
+    private static void shipTooLongAfterAnotherFile() {
+        DviBytes x = withFont(0);
+        x.font(1, 1, 1, 1, 'b', 0, 1);
+        x.put(0, 0, 0, 0);
+        x.put(1, 0, 0, 0);
+        x.ship();
+        x.begin(0, 0);
+        x.put(1, 0, 0, 0);
+        x.ship();
+        for (int i = 2; i <= 1249; i++) {
+            x.ship();
+        }
+        x.put(1, 0, 0, 0);
+        Expect.unsupported("too long", x::ship);
+        Expect.illegalState("the font told in this file stays told", () -> tell(x, 1, 'q', 0, 1));
+        Expect.same("the one told in the former file does not", "told", () -> tell(x, 0, 'q', 0, 1));
     }
 
     private static void close() {
