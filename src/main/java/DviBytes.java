@@ -330,9 +330,10 @@ public final class DviBytes {
         }
 
         void become(Bytes other) {
-            used = other.used;
-            for (int i = 0; i < used && i < row.length; i++) {
-                row[i] = (byte) other.at(i);
+            int n = Math.min(other.used, row.length);
+            if (n >= 0 && n <= other.row.length) {
+                System.arraycopy(other.row, 0, row, 0, n);
+                used = n;
             }
         }
     }
@@ -427,7 +428,8 @@ public final class DviBytes {
         }
 
         private int part(int i, int what) {
-            return i >= 0 && i < many && i < SHEET_MARKS && what >= 0 && what < PARTS ? parts[i * PARTS + what] : 0;
+            boolean there = i >= 0 && i < many && i < SHEET_MARKS && what >= 0 && what < PARTS;
+            return there ? parts[i * PARTS + what] : 0;
         }
 
         boolean isRule(int i) {
@@ -766,11 +768,13 @@ public final class DviBytes {
         }
 
         int markPart(int i, int what) {
-            return isIn(i, markMany, READ_MARKS) && isIn(what, MARK_PARTS, MARK_PARTS) ? marks[i * MARK_PARTS + what] : 0;
+            boolean there = isIn(i, markMany, READ_MARKS) && isIn(what, MARK_PARTS, MARK_PARTS);
+            return there ? marks[i * MARK_PARTS + what] : 0;
         }
 
         int pagePart(int i, int what) {
-            return isIn(i, pageMany, READ_PAGES) && isIn(what, COUNTS, COUNTS) ? pageCounts[i * COUNTS + what] : 0;
+            boolean there = isIn(i, pageMany, READ_PAGES) && isIn(what, COUNTS, COUNTS);
+            return there ? pageCounts[i * COUNTS + what] : 0;
         }
 
         int fontPart(int k, int what) {

@@ -322,7 +322,8 @@ public final class FaultsTest {
         fault("5 before 6", 5, 15, Files.begun().last(1, 1, 1, 1, 1));
         fault("5 before 2 behind it", 5, 44, Files.begun().last().add(249).four(14).add(2, 223));
         fault("7 before 9", 7, 2125, Files.inPage().font(1).add(172).times(2000, 65).add(140).page(0).add(65).end());
-        DviBytes x = Files.inPage().font(1).add(172).times(2000, 64).add(146).four(Integer.MAX_VALUE).add(65).end().fed();
+        DviBytes x = Files.inPage().font(1).add(172).times(2000, 64).add(146).four(Integer.MAX_VALUE).add(65).end()
+                .fed();
         x.width(1, 65, 1);
         Expect.same("8 before 9", 802084, x::read);
         x.width(1, 65, 0);

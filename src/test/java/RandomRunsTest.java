@@ -4,7 +4,8 @@ import java.util.Random;
 public final class RandomRunsTest {
     private static final int CALLS = 400;
     private static final int[] EDGES = {0, 1, -1, 9, 10, 127, 128, -128, -129, 255, 256, 32767, 32768, -32768, -32769,
-        8388607, 8388608, -8388608, -8388609, 1000000000, 1000000001, -1000000000, -1000000001, 2147483647, -2147483648};
+        8388607, 8388608, -8388608, -8388609, 1000000000, 1000000001, -1000000000, -1000000001, 2147483647,
+        -2147483648};
 
     private final Random random;
     private final String name;
