@@ -181,9 +181,6 @@ public final class DviBytes {
         reader.restart();
         int fault = reader.readCommands();
         if (fault == 0) {
-            fault = reader.readFillers();
-        }
-        if (fault == 0) {
             return 0;
         }
         reading.clear();
@@ -915,6 +912,7 @@ public final class DviBytes {
         private int fontAtHand;
         private int formerPage;
         private int lastAt;
+        private int fillers;
 
         Reader(Bytes input, Widths widths, Reading reading) {
             this.input = input;
@@ -927,6 +925,7 @@ public final class DviBytes {
             stage = AT_START;
             at = 0;
             formerPage = NONE;
+            fillers = 0;
         }
 
         /** Where it is: behind a fault, the fault's place. */
@@ -937,7 +936,7 @@ public final class DviBytes {
         int readCommands() {
             int length = input.length();
             /* A command has one byte at least, so there are no more of them than bytes. */
-            for (int turn = 0; turn < length && at < length && stage != BEHIND_VERY_LAST; turn++) {
+            for (int turn = 0; turn < length && at < length; turn++) {
                 code = input.at(at);
                 numberBytes = bytesOfNumber(code);
                 int behind = bytesBehind();
@@ -950,20 +949,8 @@ public final class DviBytes {
                 }
                 at += 1 + behind;
             }
-            return stage == BEHIND_VERY_LAST ? 0 : MISPLACED;
-        }
-
-        /** What stands behind 249 is bytes, not commands: each has to be 223. */
-        int readFillers() {
-            int start = at;
-            int length = input.length();
-            while (at < length) {
-                if (input.at(at) != FILLER) {
-                    return MISPLACED;
-                }
-                at++;
-            }
-            return length - start < FILLERS ? MISPLACED : 0;
+            /* Fillers are counted behind 249 alone, so a file without it has none. */
+            return fillers < FILLERS ? MISPLACED : 0;
         }
 
         private static int bytesOfNumber(int code) {
@@ -1031,12 +1018,19 @@ public final class DviBytes {
                     return code < FIRST && code != BEGIN_PAGE;
                 case BEHIND_LAST:
                     return anywhere || code == VERY_LAST && input.at(at + 5) == VERSION;
+                case BEHIND_VERY_LAST:
+                    return code == FILLER;
                 default:
                     return false;
             }
         }
 
         private int obey() {
+            if (stage == BEHIND_VERY_LAST) {
+                /* Here 223 takes no font, as it would in a page. */
+                fillers++;
+                return 0;
+            }
             if (code >= RIGHT && code < FONT_SMALL) {
                 return obeyMove();
             }

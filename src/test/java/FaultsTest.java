@@ -13,6 +13,7 @@ public final class FaultsTest {
         misplacedInAPage();
         misplacedBehindTheLast();
         fillers();
+        behindTheVeryLast();
         endsEarly();
         fontFaults();
         depthFaults();
@@ -173,12 +174,67 @@ public final class FaultsTest {
         for (int n = 4; n < 12; n++) {
             fine(n + " fillers", Files.begun().last().veryLast(n));
         }
-        for (int code = 0; code < 256; code++) {
-            if (code != 223) {
-                fault("four fillers and " + code, 2, 54, Files.begun().last().veryLast(4).add(code));
-                fault("two fillers and " + code, 2, 52, Files.begun().last().veryLast(2).add(code).times(9, 223));
+        DviBytes x = Files.begun().last().veryLast(4).fed();
+        Expect.same("four fillers, read once", 0, x::read);
+        x.keep(53);
+        Expect.same("the former read's fillers do not count", 200053, x::read);
+        x.keep(44);
+        Expect.same("nor without 249", 200044, x::read);
+    }
+
+    /** How many bytes a command has behind its code if all of them are 0. */
+    private static int bytesBehind(int code) {
+        for (int first : new int[] {128, 133, 143, 148, 153, 157, 162, 167, 235, 239, 243}) {
+            if (code >= first && code < first + 4) {
+                return code - first + 1 + (first == 243 ? 14 : 0);
             }
         }
+        return switch (code) {
+            case 132, 137 -> 8;
+            case 139 -> 44;
+            case 247 -> 14;
+            case 248 -> 28;
+            case 249 -> 5;
+            default -> 0;
+        };
+    }
+
+    /** A command behind 249: cut short it has fault 1, whole it has fault 2, if it is not 223. */
+    private static void behindTheVeryLast() {
+        for (int code = 0; code < 256; code++) {
+            if (code == 223) {
+                continue;
+            }
+            for (int fillers : new int[] {0, 2, 4, 7}) {
+                Files f = Files.begun().last().veryLast(fillers).add(code);
+                int place = 50 + fillers;
+                for (int n = 0; n < bytesBehind(code); n++) {
+                    fault(fillers + " fillers and " + code + " with " + n, 1, place, f);
+                    f.add(0);
+                }
+                fault(fillers + " fillers and " + code + " whole", 2, place, f);
+                fault(fillers + " fillers, " + code + " and more", 2, place, f.times(9, 223));
+            }
+        }
+        textBehindTheVeryLast("239", 239, 3, 'a', 'b', 'c');
+        textBehindTheVeryLast("242", 242, 0, 0, 0, 2, 'a', 'b');
+        textBehindTheVeryLast("243", 243, 1, 0, 0, 0, 0, 0, 0, 0, 0, 0, 0, 0, 0, 1, 2, 'a', 'b', 'c');
+        textBehindTheVeryLast("247", 247, 2, 0, 0, 0, 0, 0, 0, 0, 0, 0, 0, 0, 0, 2, 'a', 'b');
+        textBehindTheVeryLast("249", 249, 0, 0, 0, 15, 2);
+        fault("242 below 0", 1, 54, Files.begun().last().veryLast(4).add(242, 255, 255, 255, 255).times(50, 223));
+        fault("239 takes what is there", 1, 54, Files.begun().last().veryLast(4).add(239, 223).times(222, 223));
+        fault("239 has what it takes", 2, 54, Files.begun().last().veryLast(4).add(239, 223).times(223, 223));
+        fault("the first of two", 2, 54, Files.begun().last().veryLast(4).add(138, 139));
+        fault("249's place before it", 5, 44, Files.begun().last().add(249).four(14).add(2).times(4, 223).add(139));
+        fault("249's 2 before it", 2, 44, Files.begun().last().add(249).four(15).add(1).times(4, 223).add(139));
+    }
+
+    private static void textBehindTheVeryLast(String what, int... command) {
+        for (int n = 1; n < command.length; n++) {
+            fault(what + ", " + n + " behind 249", 1, 54,
+                    Files.begun().last().veryLast(4).add(Arrays.copyOf(command, n)));
+        }
+        fault(what + ", whole behind 249", 2, 54, Files.begun().last().veryLast(4).add(command));
     }
 
     private static void endsEarly() {

@@ -488,9 +488,8 @@ final class Model {
             c.must(c.fours[0] == last, 5);
             int start = from.position();
             while (from.hasRemaining()) {
-                if (from.get() != (byte) 223) {
-                    throw new Fault(2, from.position() - 1);
-                }
+                Command behind = next(from);
+                behind.must(behind.code == 223, 2);
             }
             if (from.limit() < start + 4) {
                 throw new Fault(2, from.limit());

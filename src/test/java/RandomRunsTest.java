@@ -234,7 +234,19 @@ public final class RandomRunsTest {
         if (below(2) == 0 && pages > 0) {
             f.font(1);
         }
-        return f.times(below(2), 138).veryLast(4 + below(5));
+        f.times(below(2), 138).veryLast(4 + below(5));
+        if (below(8) == 0) {
+            behindTheEnd(f);
+        }
+        return f;
+    }
+
+    /** What should not stand behind 249: some code, and fewer or more bytes than it has behind it. */
+    private void behindTheEnd(Files f) {
+        f.add(below(256));
+        for (int i = below(4) == 0 ? below(60) : below(6); i > 0; i--) {
+            f.add(below(3) == 0 ? below(256) : below(4));
+        }
     }
 
     private void between(Files f) {
