@@ -4,6 +4,10 @@ final class Expect {
         Object answer();
     }
 
+    interface Deed {
+        void done();
+    }
+
     private static int wrong = 0;
 
     private Expect() {
@@ -28,24 +32,36 @@ final class Expect {
         }
     }
 
-    static void illegalArgument(String what, Call call) {
-        same(what, "IllegalArgumentException", call);
+    /** A call that answers nothing, and throws what is due. */
+    static void ends(String what, String due, Deed deed) {
+        same(what, due, () -> {
+            deed.done();
+            return "done";
+        });
     }
 
-    static void illegalState(String what, Call call) {
-        same(what, "IllegalStateException", call);
+    static void done(String what, Deed deed) {
+        ends(what, "done", deed);
     }
 
-    static void unsupported(String what, Call call) {
-        same(what, "UnsupportedOperationException", call);
+    static void illegalArgument(String what, Deed deed) {
+        ends(what, "IllegalArgumentException", deed);
     }
 
-    static void arithmetic(String what, Call call) {
-        same(what, "ArithmeticException", call);
+    static void illegalState(String what, Deed deed) {
+        ends(what, "IllegalStateException", deed);
     }
 
-    static void outOfBounds(String what, Call call) {
-        same(what, "IndexOutOfBoundsException", call);
+    static void unsupported(String what, Deed deed) {
+        ends(what, "UnsupportedOperationException", deed);
+    }
+
+    static void arithmetic(String what, Deed deed) {
+        ends(what, "ArithmeticException", deed);
+    }
+
+    static void outOfBounds(String what, Deed deed) {
+        ends(what, "IndexOutOfBoundsException", deed);
     }
 
     static int wrongMany() {

@@ -1,19 +1,19 @@
 import java.util.Arrays;
 
-/** Faults 1 to 9 of a file, their places, and which of them comes first. */
+/** Promise 15: each fault of a file, 1 to 9, and its place. */
 public final class FaultsTest {
-    private static final int[] PAGE_BYTES = {128, 129, 130, 131, 133, 134, 135, 136, 143, 144, 145, 146, 148, 149, 150,
-        151, 153, 154, 155, 156, 157, 158, 159, 160, 162, 163, 164, 165, 167, 168, 169, 170, 235, 236, 237, 238};
-
     public static void main(String[] args) {
-        missing();
-        missingBeforeAllElse();
+        missingEverywhere();
+        missingTexts();
+        missingByTheirNumber();
+        missingInAWholeFile();
         misplacedAtTheStart();
         misplacedBetween();
         misplacedInAPage();
         misplacedBehindTheLast();
+        anotherKind();
         fillers();
-        behindTheVeryLast();
+        misplacedBehindTheVeryLast();
         endsEarly();
         fontFaults();
         depthFaults();
@@ -21,165 +21,24 @@ public final class FaultsTest {
         sumFaults();
         noFont();
         tooFar();
+        widthsTooFar();
         tooMany();
-        order();
         Expect.end();
     }
 
     private static void fault(String what, int fault, int place, Files file) {
-        DviBytes x = file.fed();
-        Expect.same(what, 100000 * fault + place, x::read);
-        Expect.same(what + ": nothing is read", "0 0 0 0", () -> x.about(0) + " " + x.about(1) + " " + x.about(2) + " "
-                + x.about(3));
+        Faulty.file(what, fault, place, file);
     }
 
     private static void fine(String what, Files file) {
         Expect.same(what, 0, () -> file.fed().read());
     }
 
-    /** A command that can't stand there: cut short it has fault 1, whole it has fault 2. */
-    private static void cut(String what, int... command) {
-        for (int n = 1; n < command.length; n++) {
-            fault(what + ", " + n + " in a page", 1, 60, Files.inPage().add(Arrays.copyOf(command, n)));
-            fault(what + ", " + n + " behind 248", 1, 44, Files.begun().last().add(Arrays.copyOf(command, n)));
-        }
-        fault(what + ", whole in a page", 2, 60, Files.inPage().add(command));
-    }
-
-    private static void missing() {
-        for (int code : PAGE_BYTES) {
-            int start = code < 133 ? 128 : code < 143 ? 133 : code < 148 ? 143 : code < 153 ? 148 : code < 157 ? 153
-                    : code < 162 ? 157 : code < 167 ? 162 : code < 235 ? 167 : 235;
-            Files f = Files.inPage().font(0).add(171);
-            int place = f.length();
-            f.add(code);
-            for (int n = 0; n < code - start + 1; n++) {
-                fault("command " + code + " with " + n, 1, place, f);
-                f.add(0);
-            }
-            fault("command " + code + " whole", 2, f.length(), f);
-        }
-        Files f = Files.inPage().add(132);
-        Files g = Files.inPage().add(137);
-        for (int n = 0; n < 8; n++) {
-            fault("set a rule with " + n, 1, 60, f);
-            fault("put a rule with " + n, 1, 60, g);
-            f.add(0);
-            g.add(0);
-        }
-        fault("set a rule, whole", 2, 69, f);
-        Files page = Files.begun().add(139);
-        for (int n = 0; n < 44; n++) {
-            fault("139 with " + n, 1, 15, page);
-            page.add(255);
-        }
-        fault("139 whole", 2, 60, page);
-        fault("239 without its number", 1, 60, Files.inPage().add(239));
-        fault("239 without its bytes", 1, 60, Files.inPage().add(239, 3, 0, 0));
-        fault("240 without its bytes", 1, 60, Files.inPage().add(240, 0, 3, 0, 0));
-        fault("241 without its bytes", 1, 60, Files.inPage().add(241, 128, 0, 0, 0, 0));
-        fault("242 without its bytes", 1, 60, Files.inPage().add(242, 127, 255, 255, 255, 0));
-        fault("242 below 0", 1, 60, Files.inPage().add(242, 255, 255, 255, 255).times(50, 0));
-        fault("242 far below 0", 1, 60, Files.inPage().add(242, 128, 0, 0, 0).times(50, 0));
-        for (int code = 243; code <= 246; code++) {
-            Files h = Files.inPage().add(code);
-            for (int n = 0; n < code - 242 + 12; n++) {
-                fault(code + " with " + n, 1, 60, h);
-                h.add(0);
-            }
-            h.add(2);
-            fault(code + " without l", 1, 60, h);
-            h.add(1, 'x', 'y');
-            fault(code + " without the name's end", 1, 60, h);
-            fault(code + " whole", 2, h.length() + 1, h.add('z'));
-        }
-        byte[] first = new Files().first(3).row();
-        for (int n = 1; n < first.length; n++) {
-            DviBytes x = new Files().first(3).fed();
-            x.keep(n);
-            Expect.same("247 of " + n, 100000, x::read);
-        }
-        fault("247 whole", 2, 18, new Files().first(3));
-        byte[] end = Files.begun().last().veryLast(4).row();
-        for (int n = 16; n < 50; n++) {
-            DviBytes x = new DviBytes();
-            Files.feed(x, Arrays.copyOf(end, n));
-            Expect.same("the end, " + n, n < 44 ? 100015 : n == 44 ? 200044 : 100044, x::read);
-        }
-    }
-
-    private static void missingBeforeAllElse() {
-        cut("247", 247, 2, 0, 0, 0, 0, 0, 0, 0, 0, 0, 0, 0, 0, 1, 7);
-        cut("249", 249, 0, 0, 0, 0, 2);
-        int[] page = new int[45];
-        page[0] = 139;
-        cut("139", page);
-        fault("a rule at the start", 1, 0, new Files().add(132, 0, 0, 0, 1, 0, 0, 0));
-        fault("248 at the start", 1, 0, new Files().add(248).times(27, 0));
-        fault("any bytes between pages", 1, 15, Files.begun().add(239, 1));
-    }
-
-    private static void misplacedAtTheStart() {
-        fault("an empty file", 2, 0, new Files());
-        for (int code = 0; code < 256; code++) {
-            if (code != 247) {
-                fault("starts with " + code, 2, 0, new Files().add(code).times(300, 0));
-            }
-        }
-        fault("247 of another kind", 2, 0, new Files().add(247, 3).times(13, 0));
-        fault("247 of kind 0", 2, 0, new Files().add(247, 0).times(13, 0));
-        fault("247 alone", 2, 15, Files.begun());
-    }
-
-    private static boolean isDefinition(int code) {
-        return code >= 243 && code <= 246;
-    }
-
-    private static void misplacedBetween() {
-        for (int code = 0; code < 256; code++) {
-            if (code != 138 && code != 139 && code != 248 && !isDefinition(code)) {
-                fault(code + " before the pages", 2, 15, Files.begun().add(code).times(300, 0));
-                fault(code + " behind a page", 2, 61, Files.inPage().add(140, code).times(300, 0));
-            }
-        }
-    }
-
-    private static void misplacedInAPage() {
-        int[] codes = {139, 247, 248, 249, 250, 251, 252, 253, 254, 255};
-        for (int code : codes) {
-            fault(code + " in a page", 2, 60, Files.inPage().add(code).times(300, 0));
-        }
-        fault("247 again", 2, 15, Files.begun().first(0));
-        fault("247 in a page, of the right kind", 2, 60, Files.inPage().first(0));
-        fault("249 in a page, of the right kind", 2, 60, Files.inPage().veryLast(4));
-        fault("249 without 248", 2, 15, Files.begun().veryLast(4));
-        fault("248 again", 2, 44, Files.begun().last().last().veryLast(4));
-        fault("a page in a page", 2, 60, Files.inPage().page(0).end());
-        fault("248 in a page", 2, 60, Files.inPage().last().veryLast(4));
-    }
-
-    private static void misplacedBehindTheLast() {
-        for (int code = 0; code < 256; code++) {
-            if (code != 138 && code != 249 && !isDefinition(code)) {
-                fault(code + " behind 248", 2, 44, Files.begun().last().add(code).times(300, 0));
-            }
-        }
-        fault("249 of another kind", 2, 44, Files.begun().last().add(249).four(15).add(3, 223, 223, 223, 223));
-    }
-
-    private static void fillers() {
-        for (int n = 0; n < 4; n++) {
-            fault(n + " fillers", 2, 50 + n, Files.begun().last().veryLast(n));
-        }
-        for (int n = 4; n < 12; n++) {
-            fine(n + " fillers", Files.begun().last().veryLast(n));
-        }
-        DviBytes x = Files.begun().last().veryLast(4).fed();
-        Expect.same("four fillers, read once", 0, x::read);
-        x.keep(53);
-        Expect.same("the former read's fillers do not count", 200053, x::read);
-        x.keep(44);
-        Expect.same("nor without 249", 200044, x::read);
+    /** Files to which a command may be added: at the start, between, in a page, behind 248 and behind 249. */
+    private static Files[] starts() {
+        return new Files[] {new Files(), Files.begun(), Files.inPage(), Files.inPage().add(140), Files.begun().last(),
+            Files.begun().last().veryLast(0), Files.begun().last().veryLast(2), Files.begun().last().veryLast(4),
+            Files.begun().last().veryLast(7)};
     }
 
     /** How many bytes a command has behind its code if all of them are 0. */
@@ -199,42 +58,172 @@ public final class FaultsTest {
         };
     }
 
-    /** A command behind 249: cut short it has fault 1, whole it has fault 2, if it is not 223. */
-    private static void behindTheVeryLast() {
+    /** Each command with each number of bytes that is too small, wherever it stands: fault 1 at its code. */
+    private static void missingEverywhere() {
+        for (int code = 0; code < 256; code++) {
+            for (Files f : starts()) {
+                int place = f.length();
+                f.add(code);
+                for (int n = 0; n < bytesBehind(code); n++) {
+                    fault("command " + code + " with " + n + " at " + place, 1, place, f);
+                    f.add(0);
+                }
+            }
+        }
+    }
+
+    private static void missingTexts() {
+        cut("239", 239, 3, 'a', 'b', 'c');
+        cut("240", 240, 0, 3, 'a', 'b', 'c');
+        cut("241", 241, 0, 0, 3, 'a', 'b', 'c');
+        cut("242", 242, 0, 0, 0, 3, 'a', 'b', 'c');
+        cut("243", 243, 1, 0, 0, 0, 0, 0, 0, 0, 0, 0, 0, 0, 0, 1, 2, 'a', 'b', 'c');
+        cut("244", 244, 0, 1, 0, 0, 0, 0, 0, 0, 0, 0, 0, 0, 0, 0, 0, 2, 'a', 'b');
+        cut("245", 245, 0, 0, 1, 0, 0, 0, 0, 0, 0, 0, 0, 0, 0, 0, 0, 2, 0, 'a', 'b');
+        cut("246", 246, 0, 0, 0, 1, 0, 0, 0, 0, 0, 0, 0, 0, 0, 0, 0, 0, 2, 2, 'a', 'b', 'c', 'd');
+        cut("247", 247, 2, 0, 0, 0, 0, 0, 0, 0, 0, 0, 0, 0, 0, 2, 'a', 'b');
+    }
+
+    private static void cut(String what, int... command) {
+        for (int n = 1; n < command.length; n++) {
+            for (Files f : starts()) {
+                int place = f.length();
+                fault(what + ", " + n + " bytes of it at " + place, 1, place, f.add(Arrays.copyOf(command, n)));
+            }
+        }
+    }
+
+    /** The last number of bytes that is too small, and the first that is not; a number below 0. */
+    private static void missingByTheirNumber() {
+        for (int n : new int[] {1, 127, 128, 255}) {
+            fault("239 with one byte less than " + n, 1, 60, Files.inPage().add(239, n).times(n - 1, 138));
+            fault("239 with " + n, 2, 62 + n, Files.inPage().add(239, n).times(n, 138));
+            fault("a name with one byte less than " + n, 1, 60,
+                    Files.inPage().add(243, 1).four(0, 0, 0).add(n, 255).times(n + 254, 138));
+            fault("a name with " + n + " and 255", 2, 76 + n + 255,
+                    Files.inPage().add(243, 1).four(0, 0, 0).add(n, 255).times(n + 255, 138));
+            fault("a comment with one byte less than " + n, 1, 0,
+                    new Files().add(247, 2).four(1, 2, 3).add(n).times(n - 1, 138));
+            fault("a comment with " + n, 2, 15 + n, new Files().add(247, 2).four(1, 2, 3).add(n).times(n, 138));
+        }
+        fault("240 with 65534 of 65535", 1, 60, Files.inPage().add(240, 255, 255).times(65534, 138));
+        fault("240 with 65535", 2, 63 + 65535, Files.inPage().add(240, 255, 255).times(65535, 138));
+        fault("241 without so many", 1, 60, Files.inPage().add(241, 128, 0, 0).times(1000, 138));
+        fault("242 without so many", 1, 60, Files.inPage().add(242, 127, 255, 255, 255).times(1000, 138));
+        fault("242 with -1", 1, 60, Files.inPage().add(242).four(-1).times(50, 138).end());
+        fault("242 with -2147483648", 1, 60, Files.inPage().add(242).four(Integer.MIN_VALUE).times(50, 138).end());
+        fine("242 with 0", Files.inPage().add(242).four(0).end());
+        fault("242 with -1 behind 249", 1, 54, Files.begun().last().veryLast(4).add(242).four(-1).times(50, 223));
+        fault("239 takes 222 of 223 behind 249", 1, 54, Files.begun().last().veryLast(4).add(239).times(223, 223));
+        fault("239 takes 223 behind 249", 2, 54, Files.begun().last().veryLast(4).add(239).times(224, 223));
+    }
+
+    /** A whole file, cut at each length: what is missing is told of the command that is cut. */
+    private static void missingInAWholeFile() {
+        byte[] whole = new Files().first(3).last().veryLast(4).row();
+        for (int n = 0; n <= whole.length; n++) {
+            DviBytes x = new DviBytes();
+            Files.feed(x, Arrays.copyOf(whole, n));
+            int due = n == 0 ? 200000 : n < 18 ? 100000 : n == 18 ? 200018 : n < 47 ? 100018 : n == 47 ? 200047
+                    : n < 53 ? 100047 : n < 57 ? 200000 + n : 0;
+            Expect.same("the first " + n + " bytes of a file", due, x::read);
+        }
+    }
+
+    private static void misplacedAtTheStart() {
+        fault("an empty file", 2, 0, new Files());
+        for (int code = 0; code < 256; code++) {
+            if (code != 247) {
+                fault("starts with " + code, 2, 0, new Files().add(code).times(300, 0));
+                fault(code + " alone", 2, 0, new Files().add(code).times(bytesBehind(code), 0));
+            }
+        }
+        fault("247 alone", 2, 15, Files.begun());
+    }
+
+    private static boolean isDefinition(int code) {
+        return code >= 243 && code <= 246;
+    }
+
+    private static void misplacedBetween() {
+        for (int code = 0; code < 256; code++) {
+            if (code != 138 && code != 139 && code != 248 && !isDefinition(code)) {
+                fault(code + " before the pages", 2, 15, Files.begun().add(code).times(300, 0));
+                fault(code + " behind a page", 2, 61, Files.inPage().add(140, code).times(300, 0));
+                fault(code + " before the pages, no more", 2, 15, Files.begun().add(code).times(bytesBehind(code), 0));
+            }
+        }
+    }
+
+    private static void misplacedInAPage() {
+        int[] codes = {139, 247, 248, 249, 250, 251, 252, 253, 254, 255};
+        for (int code : codes) {
+            fault(code + " in a page", 2, 60, Files.inPage().add(code).times(300, 0));
+            fault(code + " in a page, no more", 2, 60, Files.inPage().add(code).times(bytesBehind(code), 0));
+        }
+        fault("247 again", 2, 15, Files.begun().first(0));
+        fault("247 in a page, of the right kind", 2, 60, Files.inPage().first(0));
+        fault("249 in a page, of the right kind", 2, 60, Files.inPage().veryLast(4));
+        fault("249 without 248", 2, 15, Files.begun().veryLast(4));
+        fault("248 again", 2, 44, Files.begun().last().last().veryLast(4));
+        fault("a page in a page", 2, 60, Files.inPage().page(0).end());
+        fault("248 in a page", 2, 60, Files.inPage().last().veryLast(4));
+    }
+
+    private static void misplacedBehindTheLast() {
+        for (int code = 0; code < 256; code++) {
+            if (code != 138 && code != 249 && !isDefinition(code)) {
+                fault(code + " behind 248", 2, 44, Files.begun().last().add(code).times(300, 0));
+                fault(code + " behind 248, no more", 2, 44, Files.begun().last().add(code).times(bytesBehind(code), 0));
+            }
+        }
+    }
+
+    /** A 2 that is not 2. */
+    private static void anotherKind() {
+        for (int kind = 0; kind < 256; kind++) {
+            Files first = new Files().add(247, kind).four(7, 8, 9).add(0).add(248).four(-1, 7, 8, 9, 0, 0, 0)
+                    .add(249).four(15).add(2).times(4, 223);
+            Files last = Files.begun().last().add(249).four(15).add(kind).times(4, 223);
+            if (kind == 2) {
+                fine("247 of kind 2", first);
+                fine("249 of kind 2", last);
+            } else {
+                fault("247 of kind " + kind, 2, 0, first);
+                fault("249 of kind " + kind, 2, 44, last);
+            }
+        }
+    }
+
+    private static void fillers() {
+        for (int n = 0; n < 4; n++) {
+            fault(n + " fillers", 2, 50 + n, Files.begun().last().veryLast(n));
+        }
+        for (int n = 4; n < 12; n++) {
+            fine(n + " fillers", Files.begun().last().veryLast(n));
+        }
+        DviBytes x = Files.begun().last().veryLast(4).fed();
+        Expect.same("four fillers, read once", 0, x::read);
+        x.keep(53);
+        Expect.same("the former read's fillers do not count", 200053, x::read);
+        x.keep(44);
+        Expect.same("nor without 249", 200044, x::read);
+    }
+
+    /** What stands behind 249 but 223, when no byte of it is missing. */
+    private static void misplacedBehindTheVeryLast() {
         for (int code = 0; code < 256; code++) {
             if (code == 223) {
                 continue;
             }
             for (int fillers : new int[] {0, 2, 4, 7}) {
-                Files f = Files.begun().last().veryLast(fillers).add(code);
-                int place = 50 + fillers;
-                for (int n = 0; n < bytesBehind(code); n++) {
-                    fault(fillers + " fillers and " + code + " with " + n, 1, place, f);
-                    f.add(0);
-                }
-                fault(fillers + " fillers and " + code + " whole", 2, place, f);
-                fault(fillers + " fillers, " + code + " and more", 2, place, f.times(9, 223));
+                Files f = Files.begun().last().veryLast(fillers).add(code).times(bytesBehind(code), 0);
+                fault(fillers + " fillers and " + code, 2, 50 + fillers, f);
+                fault(fillers + " fillers, " + code + " and more", 2, 50 + fillers, f.times(9, 223));
             }
         }
-        textBehindTheVeryLast("239", 239, 3, 'a', 'b', 'c');
-        textBehindTheVeryLast("242", 242, 0, 0, 0, 2, 'a', 'b');
-        textBehindTheVeryLast("243", 243, 1, 0, 0, 0, 0, 0, 0, 0, 0, 0, 0, 0, 0, 1, 2, 'a', 'b', 'c');
-        textBehindTheVeryLast("247", 247, 2, 0, 0, 0, 0, 0, 0, 0, 0, 0, 0, 0, 0, 2, 'a', 'b');
-        textBehindTheVeryLast("249", 249, 0, 0, 0, 15, 2);
-        fault("242 below 0", 1, 54, Files.begun().last().veryLast(4).add(242, 255, 255, 255, 255).times(50, 223));
-        fault("239 takes what is there", 1, 54, Files.begun().last().veryLast(4).add(239, 223).times(222, 223));
-        fault("239 has what it takes", 2, 54, Files.begun().last().veryLast(4).add(239, 223).times(223, 223));
+        fault("249 again, as it was", 2, 54, Files.begun().last().veryLast(4).veryLast(4));
         fault("the first of two", 2, 54, Files.begun().last().veryLast(4).add(138, 139));
-        fault("249's place before it", 5, 44, Files.begun().last().add(249).four(14).add(2).times(4, 223).add(139));
-        fault("249's 2 before it", 2, 44, Files.begun().last().add(249).four(15).add(1).times(4, 223).add(139));
-    }
-
-    private static void textBehindTheVeryLast(String what, int... command) {
-        for (int n = 1; n < command.length; n++) {
-            fault(what + ", " + n + " behind 249", 1, 54,
-                    Files.begun().last().veryLast(4).add(Arrays.copyOf(command, n)));
-        }
-        fault(what + ", whole behind 249", 2, 54, Files.begun().last().veryLast(4).add(command));
     }
 
     private static void endsEarly() {
@@ -261,6 +250,18 @@ public final class FaultsTest {
         fault("another name", 3, 78, Files.inPage().font(1).font(1, 7, 8, 9, "", "ac").end());
         fault("a shorter name", 3, 78, Files.inPage().font(1).font(1, 7, 8, 9, "", "a").end());
         fault("a longer name", 3, 78, Files.inPage().font(1).font(1, 7, 8, 9, "", "abc").end());
+        for (int i = 0; i < 5; i++) {
+            String other = "abcde".substring(0, i) + "z" + "abcde".substring(i + 1);
+            fault("another name at " + i, 3, 81, Files.inPage().font(1, 7, 8, 9, "", "abcde")
+                    .font(1, 7, 8, 9, "", other).end());
+            fault("another name in two parts at " + i, 3, 81, Files.inPage().font(1, 7, 8, 9, "abc", "de")
+                    .font(1, 7, 8, 9, other.substring(0, 2), other.substring(2)).end());
+        }
+        fault("a name, then none", 3, 78, Files.inPage().font(1).font(1, 7, 8, 9, "", "").end());
+        fault("no name, then one", 3, 76, Files.inPage().font(1, 7, 8, 9, "", "").font(1).end());
+        fault("the first of three counts", 3, 96, Files.inPage().font(1).font(1).font(1, 7, 8, 9, "", "ac").end());
+        fault("as another font was told", 3, 95, Files.inPage().font(1).font(2, 7, 8, 9, "", "c")
+                .font(1, 7, 8, 9, "", "c").end());
         fine("the same name in other parts", Files.inPage().font(1).font(1, 7, 8, 9, "a", "b").end());
         fine("all in the first part", Files.inPage().font(1).font(1, 7, 8, 9, "ab", "").end());
         fine("another command", Files.inPage().font(1).add(244, 0, 1).four(7, 8, 9).add(0, 2, 'a', 'b').end());
@@ -300,7 +301,19 @@ public final class FaultsTest {
         fault("pages", 6, 15, Files.begun().last(0, 0, 0, 0, 1).veryLast(4));
         fault("too few pages", 6, 61, Files.inPage().add(140).last(0, 0, 0, 0, -1).veryLast(4));
         fault("256 pages too many", 6, 61, Files.inPage().add(140).last(0, 0, 0, 0, 256).veryLast(4));
-        fine("the lowest 16 bits", Files.inPage().add(140).last(0, 0, 0, 0, 65536).veryLast(4));
+        fault("each byte of the numerator", 6, 15, Files.begun().last(0, 1 << 24, 0, 0, 0).veryLast(4));
+        fault("each byte of the denominator", 6, 15, Files.begun().last(0, 0, 1 << 16, 0, 0).veryLast(4));
+        fault("each byte of the magnification", 6, 15, Files.begun().last(0, 0, 0, 1 << 8, 0).veryLast(4));
+        Files pages = Files.begun();
+        for (int i = 0; i < 300; i++) {
+            pages.page(i).add(140);
+        }
+        int place = pages.length();
+        byte[] row = pages.row();
+        fine("300 pages", pages.last().veryLast(4));
+        Files low = new Files().add(248).four(place - 46, Files.NUMERATOR, Files.DENOMINATOR, 1000, 0, 0)
+                .add(0, 0, 0, 44).add(249).four(place).add(2).times(4, 223);
+        fault("300 pages, as 44", 6, place, new Files().row(row).bytes(low));
     }
 
     private static void noFont() {
@@ -346,6 +359,17 @@ public final class FaultsTest {
         Expect.same("put, with a width", 0, y::read);
     }
 
+    private static void widthsTooFar() {
+        for (int side : new int[] {1, -1}) {
+            int edge = side > 0 ? Integer.MAX_VALUE : Integer.MIN_VALUE;
+            DviBytes x = Files.inPage().font(1).add(172, 143, side, 65).end().fed();
+            x.width(1, 65, edge);
+            Expect.same("a width of " + edge + " at " + side, 800081, x::read);
+            x.width(1, 65, edge - side);
+            Expect.same("a width of " + edge + " less one at " + side, 0, x::read);
+        }
+    }
+
     private static void tooMany() {
         fault("2001 characters", 9, 2079, Files.inPage().font(1).add(172).times(2001, 65).end());
         fault("2001st is a rule", 9, 2079, Files.inPage().font(1).add(172).times(2000, 65).add(137).four(1, 1).end());
@@ -365,38 +389,5 @@ public final class FaultsTest {
         }
         int behind = pages.length();
         fault("1301 pages", 9, behind, pages.page(0).add(140).last().veryLast(4));
-    }
-
-    /** Of two faults in one command the one with the lower number counts; of two commands the first. */
-    private static void order() {
-        fault("2 before 3", 2, 15, Files.begun().add(172));
-        fault("2 before 5", 2, 44, Files.begun().last().add(249).four(14).add(1).times(4, 223));
-        fault("2 before 7", 2, 15, Files.begun().add(65));
-        fault("3 before 9", 3, 15 + 256 * 18 + 29, manyFonts().last().add(244, 1, 0).four(0, 0, 0).add(0, 0));
-        fault("3 behind 256 fonts", 3, 15 + 256 * 18, manyFonts().font(3, 0, 0, 0, "", ""));
-        fine("256 fonts, one again", manyFonts().font(3).last().veryLast(4));
-        fault("5 before 6", 5, 15, Files.begun().last(1, 1, 1, 1, 1));
-        fault("5 before 2 behind it", 5, 44, Files.begun().last().add(249).four(14).add(2, 223));
-        fault("7 before 9", 7, 2125, Files.inPage().font(1).add(172).times(2000, 65).add(140).page(0).add(65).end());
-        DviBytes x = Files.inPage().font(1).add(172).times(2000, 64).add(146).four(Integer.MAX_VALUE).add(65).end()
-                .fed();
-        x.width(1, 65, 1);
-        Expect.same("8 before 9", 802084, x::read);
-        x.width(1, 65, 0);
-        Expect.same("then 9", 902084, x::read);
-        Files pages = Files.begun();
-        for (int i = 0; i < 1300; i++) {
-            pages.page(0).add(140);
-        }
-        fault("5 before 9", 5, 15 + 1300 * 46, pages.add(139).times(40, 0).four(3));
-        fault("the first of two commands", 7, 60, Files.inPage().add(65, 142, 255));
-    }
-
-    private static Files manyFonts() {
-        Files f = Files.begun();
-        for (int i = 0; i < 256; i++) {
-            f.font(i);
-        }
-        return f;
     }
 }

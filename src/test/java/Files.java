@@ -1,4 +1,5 @@
 import java.io.ByteArrayOutputStream;
+import java.util.Arrays;
 
 /** Builds the bytes of files by hand, right or wrong, and brings them into an object. */
 final class Files {
@@ -29,6 +30,15 @@ final class Files {
             bytes.write(b);
         }
         return this;
+    }
+
+    Files row(byte[] more) {
+        bytes.writeBytes(more);
+        return this;
+    }
+
+    Files bytes(Files other) {
+        return row(other.row());
     }
 
     Files times(int many, int... more) {
@@ -116,6 +126,29 @@ final class Files {
         DviBytes x = new DviBytes();
         feed(x, row());
         return x;
+    }
+
+    /** Bytes as numbers 0 .. 255. */
+    static String text(byte[] row) {
+        StringBuilder text = new StringBuilder();
+        for (byte b : row) {
+            text.append(text.length() > 0 ? " " : "").append(b & 255);
+        }
+        return text.toString();
+    }
+
+    String text() {
+        return text(row());
+    }
+
+    /** What is written, from one byte to (not with) another. */
+    static String written(DviBytes x, int from, int to) {
+        return text(Arrays.copyOfRange(written(x), from, to));
+    }
+
+    /** What is written of the marks of the first page, without a comment: behind 139 and 141, before 142 and 140. */
+    static String marksOf(DviBytes x) {
+        return written(x, 61, x.size() - 2);
     }
 
     static byte[] written(DviBytes x) {

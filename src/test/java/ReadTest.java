@@ -1,339 +1,272 @@
-/** Promises 12 to 19: the input, and what is told of it when it is read. */
+/** Promise 15: read, of files that have no fault. */
 public final class ReadTest {
     public static void main(String[] args) {
-        feed();
-        feedToTheEnd();
-        keep();
-        copy();
-        read();
-        whatStays();
-        about();
-        characterMarks();
-        ruleMarks();
+        leastFiles();
+        between();
+        comments();
+        fillers();
+        inputStays();
+        formerReadingGoes();
         moves();
+        numbersOfMoves();
+        rememberedMoves();
         pushAndPop();
+        newPages();
         widths();
-        pages();
-        fonts();
-        anywhereInAPage();
-        manyMarks();
+        bytesOfAnyKind();
+        fontsAnywhere();
+        farthestPlaces();
         roundTrip();
         Expect.end();
     }
 
-    private static String marks(DviBytes x) {
-        StringBuilder text = new StringBuilder();
-        for (int i = 0; i < x.about(0); i++) {
-            text.append(i > 0 ? " / " : "");
-            for (int what = 0; what < 6; what++) {
-                text.append(what > 0 ? " " : "").append(x.mark(i, what));
-            }
-        }
-        return text.toString();
+    private static String read(Files f) {
+        DviBytes x = f.fed();
+        int fault = x.read();
+        return fault == 0 ? Look.marks(x) : "fault " + fault;
     }
 
     /** What is read of a page with font 1 at hand and these bytes. */
     private static String marksOf(int... bytes) {
-        DviBytes x = Files.inPage().font(1).add(172).add(bytes).end().fed();
+        return read(Files.inPage().font(1).add(172).add(bytes).end());
+    }
+
+    /** Where character 9 stands behind these bytes: h and v. */
+    private static String placeBehind(int... bytes) {
+        DviBytes x = Files.inPage().font(1).add(172).add(bytes).add(9).end().fed();
         int fault = x.read();
-        return fault == 0 ? marks(x) : "fault " + fault;
+        int last = x.about(0) - 1;
+        return fault == 0 ? x.mark(last, 3) + " " + x.mark(last, 4) : "fault " + fault;
     }
 
-    private static void feed() {
-        DviBytes x = new DviBytes();
-        Expect.same("no bytes", false, () -> x.feed(1, 0));
-        Expect.same("-1 bytes", false, () -> x.feed(1, -1));
-        Expect.same("nine bytes", false, () -> x.feed(1, 9));
-        Expect.same("nothing came", true, () -> x.keep(0) && !x.keep(1));
-        byte[] file = Files.begun().last().veryLast(4).row();
-        for (int n = 1; n <= 8; n++) {
-            int bytes = n;
-            x.keep(0);
-            for (int i = 0; i < file.length; i += n) {
-                long w = -1;
-                int many = Math.min(n, file.length - i);
-                for (int k = 0; k < many; k++) {
-                    w = w << 8 | file[i + k] & 255;
-                }
-                long last = w;
-                Expect.same("feed by " + bytes, true, () -> x.feed(last, many));
-            }
-            Expect.same("all came, by " + n, true, () -> x.keep(file.length) && !x.keep(file.length + 1));
-            Expect.same("read, by " + n, 0, x::read);
+    private static void fine(String what, Files f) {
+        Expect.same(what, 0, () -> f.fed().read());
+    }
+
+    private static void leastFiles() {
+        fine("without pages", Files.begun().last().veryLast(4));
+        fine("with an empty page", Files.inPage().end());
+        fine("with two", Files.inPage().add(140).page(0).end());
+    }
+
+    private static void between() {
+        fine("138 before the pages", Files.begun().times(50, 138).page(0).end());
+        fine("138 behind the pages", Files.inPage().add(140).times(50, 138).last().veryLast(4));
+        fine("138 between pages", Files.inPage().add(140).times(50, 138).page(0).end());
+        fine("138 behind 248", Files.begun().last().times(50, 138).veryLast(4));
+        fine("138 in a page", Files.inPage().times(50, 138).end());
+        fine("fonts everywhere", Files.begun().add(138, 138).font(1).add(138).page(0).font(3).add(140)
+                .add(138).font(2).page(0).add(140, 138).last().add(138).font(2).font(1).add(138).font(2).veryLast(5));
+    }
+
+    private static void comments() {
+        for (int n : new int[] {0, 1, 127, 128, 254, 255}) {
+            fine("a comment of " + n, new Files().first(n).last().veryLast(4));
+            fine("a comment of " + n + " and a page", new Files().first(n).page(0).end());
         }
-        x.feed(5, 1);
-        Expect.same("behind the input", 200000 + file.length, x::read);
     }
 
-    private static void feedToTheEnd() {
-        DviBytes x = new DviBytes();
-        for (int i = 0; i < 8749; i++) {
-            x.feed(0, 8);
+    private static void fillers() {
+        for (int n = 4; n <= 20; n++) {
+            fine(n + " bytes 223", Files.begun().last().veryLast(n));
         }
-        Expect.same("69999", true, () -> x.feed(0, 7));
-        Expect.same("70001", false, () -> x.feed(0, 2));
-        Expect.same("70000", true, () -> x.feed(0, 1));
-        Expect.same("one more", false, () -> x.feed(0, 1));
-        Expect.same("it has 70000", true, () -> x.keep(70000) && !x.keep(70001));
+        fine("a thousand bytes 223", Files.begun().last().veryLast(1000));
     }
 
-    private static void keep() {
-        DviBytes x = Files.begun().last().veryLast(4).fed();
-        Expect.same("keep -1", false, () -> x.keep(-1));
-        Expect.same("keep one too many", false, () -> x.keep(55));
-        Expect.same("nothing changed", 0, x::read);
-        Expect.same("keep all", true, () -> x.keep(54));
-        Expect.same("still whole", 0, x::read);
-        Expect.same("keep less", true, () -> x.keep(53));
-        Expect.same("a byte is gone", 200053, x::read);
-        Expect.same("it does not come back", false, () -> x.keep(54));
-        Expect.same("keep none", true, () -> x.keep(0));
-        Expect.same("none", 200000, x::read);
-    }
-
-    private static void copy() {
-        DviBytes x = new DviBytes();
-        x.feed(1, 8);
-        Expect.same("nothing is written", 0, x::copy);
-        Expect.same("nothing is there", false, () -> x.keep(1));
-        x.ship();
-        Expect.same("a page", 63, x::copy);
-        Expect.same("no end", 200063, x::read);
-        x.close();
-        Expect.same("the copy stays as it was", 200063, x::read);
-        Expect.same("closed", 104, x::copy);
-        Expect.same("whole", 0, x::read);
-        Expect.same("the file stays", 104, x::size);
-        x.begin(0, 0);
-        Expect.same("the input stays", 0, x::read);
-        x.copy();
-        Expect.same("empty again", 200000, x::read);
-    }
-
-    private static void read() {
-        Expect.same("plain file", 0, () -> Files.begun().last().veryLast(4).fed().read());
-        Expect.same("a comment", 0, () -> new Files().first(255).last().veryLast(4).fed().read());
-        Expect.same("many 223", 0, () -> Files.begun().last().veryLast(100).fed().read());
-        Expect.same("138 and fonts between", 0, () -> Files.begun().add(138, 138).font(1).add(138).page(0).add(140)
-                .add(138).font(2).page(0).add(140, 138).last().add(138).font(2).font(1).add(138).font(2).veryLast(5)
-                .fed().read());
-        DviBytes x = Files.inPage().end().fed();
-        Expect.same("read", 0, x::read);
-        Expect.same("read again", 0, x::read);
-        Expect.same("the input stays", true, () -> x.keep(60 + 1 + 29 + 10) && !x.keep(101));
-    }
-
-    private static void whatStays() {
+    private static void inputStays() {
         DviBytes x = Files.inPage().font(1).add(172, 65).end().fed();
-        x.read();
-        x.keep(0);
-        x.feed(0, 8);
-        x.copy();
-        x.begin(0, 0);
-        x.width(1, 65, 9);
-        Expect.same("what was read stays", "1 0 1 65 0 0 0 97", () -> x.about(0) + " " + marks(x) + " " + x.told(0, 5));
-        Expect.same("a fault", 200000, x::read);
-        for (int i = 0; i <= 6; i++) {
-            int what = i;
-            Expect.same("nothing is read: about " + i, 0, () -> x.about(what));
-        }
-        Expect.outOfBounds("nothing is read: mark", () -> x.mark(0, 0));
-        Expect.outOfBounds("nothing is read: page", () -> x.page(0, 0));
-        Expect.outOfBounds("nothing is read: told", () -> x.told(0, 0));
-    }
-
-    private static void about() {
-        DviBytes x = Files.begun().font(1).page(0).add(141, 141, 142, 142, 172, 1, 2).add(140)
-                .page(0).add(141, 172, 1, 142, 140).last().veryLast(4).fed();
+        int length = Look.inputLength(x);
         Expect.same("read", 0, x::read);
-        int[] due = {3, 2, 1, 1000, -11, 12, 2};
-        for (int i = 0; i < due.length; i++) {
-            int what = i;
-            Expect.same("about " + i, due[i], () -> x.about(what));
-        }
-        Expect.outOfBounds("about -1", () -> x.about(-1));
-        Expect.outOfBounds("about 7", () -> x.about(7));
+        String reading = Look.reading(x);
+        Expect.same("the input stays", length, () -> Look.inputLength(x));
+        Expect.same("read again", 0, x::read);
+        Expect.same("it tells the same", reading, () -> Look.reading(x));
+        x.keep(70);
+        Expect.same("a fault", 100060, x::read);
+        Expect.same("the input stays with a fault", 70, () -> Look.inputLength(x));
+        Expect.same("the same fault again", 100060, x::read);
     }
 
-    private static void characterMarks() {
-        Expect.same("0 and 127", "0 1 0 0 0 0 / 0 1 127 0 0 0", () -> marksOf(0, 127));
-        Expect.same("set by numbers", "0 1 200 0 0 0 / 0 1 40000 0 0 0 / 0 1 16777215 0 0 0 / 0 1 -2 0 0 0",
-                () -> marksOf(128, 200, 129, 156, 64, 130, 255, 255, 255, 131, 255, 255, 255, 254));
-        Expect.same("put by numbers", "0 1 200 0 0 0 / 0 1 40000 0 0 0 / 0 1 16777215 0 0 0 / 0 1 -2 0 0 0",
-                () -> marksOf(133, 200, 134, 156, 64, 135, 255, 255, 255, 136, 255, 255, 255, 254));
-        DviBytes x = Files.inPage().font(1).add(172, 5).end().fed();
+    private static void formerReadingGoes() {
+        Files first = Files.begun().font(1).font(2).page(7).add(172, 65, 66, 141, 141, 142, 142, 140).page(8).end();
+        Files second = Files.begun().font(3, 1, 2, 3, "", "z").page(9).add(174, 67, 140).last().veryLast(4);
+        DviBytes x = first.fed();
         x.read();
-        Expect.outOfBounds("mark -1", () -> x.mark(-1, 0));
-        Expect.outOfBounds("mark 1", () -> x.mark(1, 0));
-        Expect.outOfBounds("what -1", () -> x.mark(0, -1));
-        Expect.outOfBounds("what 6", () -> x.mark(0, 6));
-        Expect.outOfBounds("far behind", () -> x.mark(Integer.MAX_VALUE, 0));
-        Expect.outOfBounds("far before", () -> x.mark(Integer.MIN_VALUE, 0));
-    }
-
-    private static void ruleMarks() {
-        Expect.same("set a rule", "0 -1 5 0 0 2 / 0 1 7 5 0 0", () -> marksOf(132, 0, 0, 0, 2, 0, 0, 0, 5, 7));
-        Expect.same("put a rule", "0 -1 5 0 0 2 / 0 1 7 0 0 0", () -> marksOf(137, 0, 0, 0, 2, 0, 0, 0, 5, 7));
-        Expect.same("height 0 is no mark, but moves", "0 1 7 5 0 0", () -> marksOf(132, 0, 0, 0, 0, 0, 0, 0, 5, 7));
-        Expect.same("height -1 is no mark", "0 1 7 5 0 0", () -> marksOf(132, 255, 255, 255, 255, 0, 0, 0, 5, 7));
-        Expect.same("width 0 is no mark", "0 1 7 0 0 0", () -> marksOf(132, 0, 0, 0, 1, 0, 0, 0, 0, 7));
-        Expect.same("width -1 is no mark, but moves", "0 1 7 -1 0 0",
-                () -> marksOf(132, 0, 0, 0, 1, 255, 255, 255, 255, 7));
-        Expect.same("put, height 0", "0 1 7 0 0 0", () -> marksOf(137, 0, 0, 0, 0, 0, 0, 0, 5, 7));
-        Expect.same("a rule needs no font", 0,
-                () -> Files.inPage().add(137, 0, 0, 0, 1, 0, 0, 0, 1).end().fed().read());
+        Files.feed(x, second.row());
+        DviBytes y = second.fed();
+        y.read();
+        Expect.same("a new reading", 0, x::read);
+        Expect.same("nothing of the former is left", Look.reading(y), () -> Look.reading(x));
+        Files.feed(x, first.row());
+        x.read();
+        x.feed(0, 1);
+        Expect.same("a fault behind it all", 200000 + first.length(), x::read);
+        Expect.same("with a fault nothing is read", Look.reading(new DviBytes()), () -> Look.reading(x));
+        x.keep(first.length());
+        Expect.same("mended", 0, x::read);
+        Expect.same("read again", 2, () -> x.about(0));
     }
 
     private static void moves() {
-        Expect.same("right", "0 1 9 255 0 0", () -> marksOf(144, 0, 255, 9));
-        Expect.same("right back", "0 1 9 -1 0 0", () -> marksOf(143, 255, 9));
-        Expect.same("right of three", "0 1 9 -8388608 0 0", () -> marksOf(145, 128, 0, 0, 9));
-        Expect.same("right of four", "0 1 9 -2147483648 0 0", () -> marksOf(146, 128, 0, 0, 0, 9));
-        Expect.same("down", "0 1 9 0 -1 0", () -> marksOf(157, 255, 9));
-        Expect.same("down of two, three, four", "0 1 9 0 -2 0 / 0 1 9 0 65534 0 / 0 1 9 0 -2147418114 0",
-                () -> marksOf(158, 255, 254, 9, 159, 1, 0, 0, 9, 160, 128, 0, 0, 0, 9));
-        Expect.same("w", "0 1 9 -2 0 0 / 0 1 9 -4 0 0 / 0 1 9 -5 0 0 / 0 1 9 -8 0 0",
-                () -> marksOf(148, 254, 9, 147, 9, 143, 255, 9, 150, 255, 255, 253, 9));
-        Expect.same("x", "0 1 9 300 0 0 / 0 1 9 600 0 0 / 0 1 9 600 0 0", () -> marksOf(154, 1, 44, 9, 152, 9, 147, 9));
-        Expect.same("y", "0 1 9 0 300 0 / 0 1 9 0 600 0 / 0 1 9 0 600 0", () -> marksOf(163, 1, 44, 9, 161, 9, 166, 9));
-        Expect.same("z", "0 1 9 0 300 0 / 0 1 9 0 600 0 / 0 1 9 0 600 0", () -> marksOf(168, 1, 44, 9, 166, 9, 161, 9));
-        Expect.same("all four, of four bytes", "0 1 9 3 7 0 / 0 1 9 6 14 0", () -> marksOf(151, 0, 0, 0, 1,
-                156, 0, 0, 0, 2, 165, 0, 0, 0, 3, 170, 0, 0, 0, 4, 9, 147, 152, 161, 166, 9));
-        Expect.same("all four, of one byte", "0 1 9 3 7 0 / 0 1 9 6 14 0",
-                () -> marksOf(148, 1, 153, 2, 162, 3, 167, 4, 9, 147, 152, 161, 166, 9));
-        Expect.same("all four, of three bytes", "0 1 9 3 7 0 / 0 1 9 6 14 0", () -> marksOf(150, 0, 0, 1,
-                155, 0, 0, 2, 164, 0, 0, 3, 169, 0, 0, 4, 9, 147, 152, 161, 166, 9));
-        Expect.same("nothing remembered", "0 1 9 0 0 0", () -> marksOf(147, 152, 161, 166, 9));
-        Expect.same("a new page forgets", "0 1 9 5 6 0 / 1 1 9 0 0 0", () -> {
-            DviBytes x = Files.inPage().font(1).add(172, 148, 5, 162, 6, 9, 140).page(3)
-                    .add(172, 147, 161, 9).end().fed();
-            return x.read() == 0 ? marks(x) : "fault";
-        });
+        Expect.same("right", "255 0", () -> placeBehind(144, 0, 255));
+        Expect.same("down", "0 255", () -> placeBehind(158, 0, 255));
+        Expect.same("there and back", "0 0", () -> placeBehind(143, 5, 143, 251, 157, 5, 157, 251));
+        Expect.same("right adds", "12 0", () -> placeBehind(143, 5, 143, 7));
+        Expect.same("down adds", "0 12", () -> placeBehind(157, 5, 157, 7));
+        Expect.same("nothing remembered", "0 0", () -> placeBehind(147, 152, 161, 166));
+        Expect.same("a plain move is not remembered", "5 6", () -> placeBehind(143, 5, 147, 152, 157, 6, 161, 166));
+    }
+
+    /** The least and the greatest number of each length, of all six kinds of moves. */
+    private static void numbersOfMoves() {
+        int[] plain = {143, 148, 153, 157, 162, 167};
+        for (int first : plain) {
+            for (int bytes = 1; bytes <= 4; bytes++) {
+                int[] most = new int[bytes + 1];
+                int[] least = new int[bytes + 1];
+                int[] less = new int[bytes + 1];
+                java.util.Arrays.fill(most, 255);
+                java.util.Arrays.fill(less, 255);
+                most[0] = first + bytes - 1;
+                least[0] = most[0];
+                less[0] = most[0];
+                most[1] = 127;
+                least[1] = 128;
+                int power = 31 - 8 * (4 - bytes);
+                int greatest = (int) ((1L << power) - 1);
+                String code = "command " + most[0];
+                Expect.same(code + ", the greatest", first < 157 ? greatest + " 0" : "0 " + greatest,
+                        () -> placeBehind(most));
+                int smallest = -greatest - 1;
+                Expect.same(code + ", the least", first < 157 ? smallest + " 0" : "0 " + smallest,
+                        () -> placeBehind(least));
+                Expect.same(code + ", -1", first < 157 ? "-1 0" : "0 -1", () -> placeBehind(less));
+            }
+        }
+    }
+
+    private static void rememberedMoves() {
+        int[] codes = {148, 153, 162, 167};
+        int[] again = {147, 152, 161, 166};
+        for (int i = 0; i < 4; i++) {
+            int way = i;
+            for (int bytes = 1; bytes <= 4; bytes++) {
+                int[] row = new int[bytes + 3];
+                row[0] = codes[i] + bytes - 1;
+                row[bytes] = 5;
+                row[bytes + 1] = again[i];
+                row[bytes + 2] = again[i];
+                Expect.same("command " + row[0] + ", and twice again", way < 2 ? "15 0" : "0 15",
+                        () -> placeBehind(row));
+            }
+            for (int other = 0; other < 4; other++) {
+                int another = again[other];
+                Expect.same("command " + codes[i] + ", then " + another, other == i ? way < 2 ? "10 0" : "0 10"
+                        : way < 2 ? "5 0" : "0 5", () -> placeBehind(codes[way], 5, another));
+            }
+            Expect.same("another number of " + codes[i], way < 2 ? "19 0" : "0 19",
+                    () -> placeBehind(codes[way], 5, codes[way], 7, again[way]));
+        }
+        Expect.same("all four", "6 14", () -> placeBehind(148, 1, 153, 2, 162, 3, 167, 4, 147, 152, 161, 166));
     }
 
     private static void pushAndPop() {
         Expect.same("push and pop", "0 1 9 3 7 0 / 0 1 9 33 77 0 / 0 1 9 3 7 0 / 0 1 9 6 14 0",
                 () -> marksOf(148, 1, 153, 2, 162, 3, 167, 4, 9, 141, 148, 10, 153, 20, 162, 30, 167, 40, 9,
                         142, 9, 147, 152, 161, 166, 9));
-        Expect.same("the font is not pushed", "0 2 9 0 0 0", () -> {
-            DviBytes x = Files.inPage().font(1).font(2).add(172, 141, 173, 142, 9).end().fed();
-            return x.read() == 0 ? marks(x) : "fault";
-        });
-        Expect.same("two deep", "0 1 9 3 0 0 / 0 1 9 1 0 0 / 0 1 9 0 0 0",
+        for (int code : new int[] {147, 152}) {
+            Expect.same("push keeps what " + code + " moves by", "10 0",
+                    () -> placeBehind(code + 1, 5, 141, code + 1, 9, 142, code));
+        }
+        for (int code : new int[] {161, 166}) {
+            Expect.same("push keeps what " + code + " moves by", "0 10",
+                    () -> placeBehind(code + 1, 5, 141, code + 1, 9, 142, code));
+        }
+        Expect.same("a push alone changes nothing", "5 6", () -> placeBehind(143, 5, 157, 6, 141, 142));
+        Expect.same("the font is not pushed", "0 2 9 0 0 0",
+                () -> read(Files.inPage().font(1).font(2).add(172, 141, 173, 142, 9).end()));
+        Expect.same("a font that is taken behind push stays", "0 1 9 0 0 0",
+                () -> read(Files.inPage().font(1).add(141, 172, 142, 9).end()));
+        Expect.same("the latest comes back first", "0 1 9 3 0 0 / 0 1 9 1 0 0 / 0 1 9 0 0 0",
                 () -> marksOf(141, 143, 1, 141, 143, 2, 9, 142, 9, 142, 9));
-        DviBytes x = Files.inPage().times(100, 141, 143, 1).times(100, 142).font(1).add(172, 9).end().fed();
+        Expect.same("a width is taken back", "0 1 65 0 0 0 / 0 1 66 0 0 0", () -> {
+            DviBytes x = Files.inPage().font(1).add(172, 141, 65, 142, 66).end().fed();
+            x.width(1, 65, 40);
+            return x.read() == 0 ? Look.marks(x) : "fault";
+        });
+        DviBytes x = Files.inPage().font(1).add(172).times(100, 141, 143, 1).times(100, 9, 142).add(9).end().fed();
         Expect.same("a hundred deep", 0, x::read);
-        Expect.same("the greatest depth", 100, () -> x.about(6));
-        Expect.same("all came back", "0 1 9 0 0 0", () -> marks(x));
+        for (int i = 0; i <= 100; i++) {
+            int mark = i;
+            Expect.same("h behind " + i + " pops", 100 - i, () -> x.mark(mark, 3));
+        }
+    }
+
+    private static void newPages() {
+        Expect.same("h, v, w, x, y and z are 0 again", "0 1 9 12 14 0 / 1 1 9 0 0 0",
+                () -> read(Files.inPage().font(1).add(172, 148, 5, 153, 7, 162, 6, 167, 8, 9, 140).page(3)
+                        .add(172, 147, 152, 161, 166, 9).end()));
+        Expect.same("a font told on a former page", "1 1 9 0 0 0",
+                () -> read(Files.inPage().font(1).add(140).page(0).add(172, 9).end()));
     }
 
     private static void widths() {
-        DviBytes x = Files.inPage().font(1).font(255)
-                .add(246).four(256, 7, 8, 9).add(0, 0).add(246).four(-1, 7, 8, 9).add(0, 0)
-                .add(172, 65, 133, 65, 128, 65, 129, 1, 65, 131).four(-191).add(235, 255, 128, 255)
-                .add(236, 1, 0, 65, 238).four(-1).add(65, 9).end().fed();
-        x.width(1, 65, 10);
-        x.width(255, 255, -1000);
-        x.width(0, 65, 5);
-        Expect.same("read", 0, x::read);
-        Expect.same("widths", "0 1 65 0 0 0 / 0 1 65 10 0 0 / 0 1 65 10 0 0 / 0 1 321 20 0 0 / 0 1 -191 20 0 0"
-                + " / 0 255 255 20 0 0 / 0 256 65 -980 0 0 / 0 -1 65 -980 0 0 / 0 -1 9 -980 0 0", () -> marks(x));
-        DviBytes y = Files.inPage().font(1).add(172, 128, 65, 129, 0, 65, 130, 0, 0, 65, 131, 0, 0, 0, 65)
+        DviBytes x = Files.inPage().font(1).add(172, 65, 128, 65, 129, 0, 65, 130, 0, 0, 65, 131, 0, 0, 0, 65)
                 .add(133, 65, 134, 0, 65, 135, 0, 0, 65, 136, 0, 0, 0, 65, 1).end().fed();
-        y.width(1, 65, 10);
-        y.read();
-        Expect.same("set and put by numbers of all lengths", "0 10 20 30 40 40 40 40 40", () -> y.mark(0, 3) + " "
-                + y.mark(1, 3) + " " + y.mark(2, 3) + " " + y.mark(3, 3) + " " + y.mark(4, 3) + " " + y.mark(5, 3)
-                + " " + y.mark(6, 3) + " " + y.mark(7, 3) + " " + y.mark(8, 3));
-        x.width(1, 65, 11);
-        Expect.same("widths of the former read", 10, () -> x.mark(1, 3));
+        x.width(1, 65, 10);
         x.read();
-        Expect.same("widths of the new read", 11, () -> x.mark(1, 3));
-    }
-
-    private static void pages() {
-        DviBytes x = Files.inPage().add(140).page(-5).add(140).page(Integer.MAX_VALUE - 9).end().fed();
-        Expect.same("read", 0, x::read);
-        Expect.same("pages", 3, () -> x.about(1));
-        for (int i = 0; i < 10; i++) {
-            int k = i;
-            Expect.same("count " + i, k, () -> x.page(0, k));
-            Expect.same("count " + i, k - 5, () -> x.page(1, k));
-            Expect.same("count " + i, Integer.MAX_VALUE - 9 + k, () -> x.page(2, k));
-        }
-        Expect.outOfBounds("page -1", () -> x.page(-1, 0));
-        Expect.outOfBounds("page 3", () -> x.page(3, 0));
-        Expect.outOfBounds("count -1", () -> x.page(0, -1));
-        Expect.outOfBounds("count 10", () -> x.page(0, 10));
-        Expect.outOfBounds("page far behind", () -> x.page(Integer.MAX_VALUE, 9));
-    }
-
-    private static void fonts() {
-        DviBytes x = Files.begun().font(9, -1, -2, -3, "x", "yz").font(9, -1, -2, -3, "xy", "z")
-                .page(0).font(8, 1, 2, 3, "", "").add(140).font(9, -1, -2, -3, "", "xyz")
-                .add(244, 1, 2).four(4, 5, 6).add(1, 1, 255, 0)
-                .add(245, 255, 255, 255).four(4, 5, 6).add(0, 0)
-                .add(246).four(-2, 4, 5, 6).add(0, 0)
-                .last().font(8, 1, 2, 3, "", "").font(9, -1, -2, -3, "x", "yz").veryLast(4).fed();
-        Expect.same("read", 0, x::read);
-        Expect.same("fonts, each once", 5, () -> x.about(2));
-        int[][] due = {{9, -1, -2, -3, 3, 'x', 'y', 'z', 0, 0}, {8, 1, 2, 3, 0, 0, 0}, {258, 4, 5, 6, 2, 255, 0, 0},
-            {16777215, 4, 5, 6, 0, 0}, {-2, 4, 5, 6, 0, 0}};
+        int[] due = {0, 10, 20, 30, 40, 50, 50, 50, 50, 50};
         for (int i = 0; i < due.length; i++) {
-            for (int j = 0; j < due[i].length; j++) {
-                int k = i;
-                int what = j;
-                Expect.same("font " + i + ", " + j, due[i][j], () -> x.told(k, what));
+            int mark = i;
+            Expect.same("h of mark " + i + ": to set adds, to put does not", due[i], () -> x.mark(mark, 3));
+        }
+        x.width(1, 65, -10);
+        x.read();
+        Expect.same("a width below 0", -50, () -> x.mark(9, 3));
+    }
+
+    private static void bytesOfAnyKind() {
+        for (int code = 239; code <= 242; code++) {
+            for (int n : new int[] {0, 1, 255, 256, 300}) {
+                int bytes = code - 238;
+                if (bytes == 1 && n > 255) {
+                    continue;
+                }
+                Files f = Files.inPage().font(1).add(172, code);
+                for (int i = bytes - 1; i >= 0; i--) {
+                    f.add(n >> (8 * i));
+                }
+                for (int i = 0; i < n; i++) {
+                    f.add(140 + i);
+                }
+                Expect.same("command " + code + " with " + n, "0 1 9 0 0 0", () -> read(f.add(9).end()));
             }
         }
-        Expect.same("far behind the name", 0, () -> x.told(0, Integer.MAX_VALUE));
-        Expect.outOfBounds("what -1", () -> x.told(0, -1));
-        Expect.outOfBounds("what -2147483648", () -> x.told(0, Integer.MIN_VALUE));
-        Expect.outOfBounds("font -1", () -> x.told(-1, 0));
-        Expect.outOfBounds("font 5", () -> x.told(5, 0));
-        Expect.outOfBounds("font far behind", () -> x.told(Integer.MAX_VALUE, 0));
-        Files wide = Files.begun().add(243, 1).four(0, 0, 0).add(255, 255).times(509, 7).add(6);
-        DviBytes y = wide.last().veryLast(4).fed();
-        for (int i = 0; i < 300; i++) {
-            Expect.same("a name of 510", 0, y::read);
-        }
-        Expect.same("its end", "510 7 6 0", () -> y.told(0, 4) + " " + y.told(0, 513) + " " + y.told(0, 514) + " "
-                + y.told(0, 515));
+        Files most = Files.inPage().font(1).add(172, 240, 255, 255).times(65535, 140).add(9).end();
+        Expect.same("65535 bytes", "0 1 9 0 0 0", () -> read(most));
+        Files more = Files.inPage().font(1).add(172, 241, 1, 0, 0).times(65536, 140).add(9).end();
+        Expect.same("65536 bytes", "0 1 9 0 0 0", () -> read(more));
     }
 
-    private static void anywhereInAPage() {
-        Expect.same("bytes of any kind", "0 1 9 0 0 0", () -> marksOf(138, 239, 0, 239, 2, 139, 255, 240, 0, 1, 247,
-                241, 0, 0, 1, 140, 242, 0, 0, 0, 1, 249, 9));
-        Expect.same("many of them", "0 1 9 0 0 0", () -> {
-            DviBytes x = Files.inPage().font(1).add(172).add(239, 255).times(255, 9).add(240, 1, 0).times(256, 9)
-                    .add(9).end().fed();
-            return x.read() == 0 ? marks(x) : "fault";
-        });
+    private static void fontsAnywhere() {
         String due = "0 1 9 0 0 0 / 0 64 9 0 0 0 / 0 64 9 0 0 0 / 0 1 9 0 0 0 / 0 64 9 0 0 0";
-        Expect.same("fonts of all kinds", due, () -> {
-            DviBytes x = Files.inPage().font(1).font(64).add(172, 9, 235, 64, 9, 236, 0, 64, 9, 237, 0, 0, 1, 9)
-                    .add(238, 0, 0, 0, 64, 9).end().fed();
-            return x.read() == 0 ? marks(x) : "fault";
-        });
+        Expect.same("fonts of all kinds", due, () -> read(Files.inPage().font(1).font(64)
+                .add(172, 9, 235, 64, 9, 236, 0, 64, 9, 237, 0, 0, 1, 9, 238, 0, 0, 0, 64, 9).end()));
+        Expect.same("to tell a font is not to take it", "0 1 9 0 0 0",
+                () -> read(Files.inPage().font(1).add(172).font(2).add(9).end()));
+        Expect.same("told between pages", "0 1 9 0 0 0 / 1 2 9 0 0 0",
+                () -> read(Files.begun().font(1).page(0).add(172, 9, 140).font(2).page(0).add(173, 9).end()));
     }
 
-    private static void manyMarks() {
-        DviBytes x = Files.inPage().font(1).add(172).times(2000, 65).end().fed();
-        x.width(1, 65, 3);
-        Expect.same("2000 marks", 0, x::read);
-        Expect.same("the last one", "0 1 65 5997 0 0", () -> x.mark(1999, 0) + " " + x.mark(1999, 1) + " "
-                + x.mark(1999, 2) + " " + x.mark(1999, 3) + " " + x.mark(1999, 4) + " " + x.mark(1999, 5));
-        Files f = Files.begun();
-        for (int i = 0; i < 256; i++) {
-            f.font(i);
-        }
-        for (int i = 0; i < 1300; i++) {
-            f.page(i).add(140);
-        }
-        DviBytes y = f.last().veryLast(4).fed();
-        Expect.same("256 fonts and 1300 pages", 0, y::read);
-        Expect.same("the last ones", "1300 256 1308 255", () -> y.about(1) + " " + y.about(2) + " " + y.page(1299, 9)
-                + " " + y.told(255, 0));
+    private static void farthestPlaces() {
+        int most = Integer.MAX_VALUE;
+        int least = Integer.MIN_VALUE;
+        Expect.same("to the greatest h and v", "0 1 9 " + most + " " + most + " 0", () -> read(Files.inPage().font(1)
+                .add(172, 146).four(most - 1).add(143, 1, 160).four(most - 1).add(157, 1, 9).end()));
+        Expect.same("to the least h and v", "0 1 9 " + least + " " + least + " 0", () -> read(Files.inPage().font(1)
+                .add(172, 146).four(least + 1).add(143, 255, 160).four(least + 1).add(157, 255, 9).end()));
+        Expect.same("from the greatest to the least but one", "0 1 9 0 0 0", () -> read(Files.inPage().font(1)
+                .add(172, 146).four(most).add(146).four(-most).add(160).four(most).add(160).four(-most).add(9).end()));
     }
 
     private static void roundTrip() {
@@ -353,12 +286,8 @@ public final class ReadTest {
         Expect.same("copy", x.size(), x::copy);
         Expect.same("read", 0, x::read);
         Expect.same("marks", "0 5 65 100 200 0 / 0 70 200 1100 200 0 / 0 -1 50 -7 300 6 / 1 70 200 3 4 0",
-                () -> marks(x));
+                () -> Look.marks(x));
         Expect.same("about", "4 2 2 1000 300 1100 1", () -> x.about(0) + " " + x.about(1) + " " + x.about(2) + " "
                 + x.about(3) + " " + x.about(4) + " " + x.about(5) + " " + x.about(6));
-        Expect.same("fonts", "5 -1 655360 655361 5 99 70 16 112", () -> x.told(0, 0) + " " + x.told(0, 1) + " "
-                + x.told(0, 2) + " " + x.told(0, 3) + " " + x.told(0, 4) + " " + x.told(0, 5) + " " + x.told(1, 0)
-                + " " + x.told(1, 4) + " " + x.told(1, 20));
-        Expect.same("counts", "-4 -4 0", () -> x.page(0, 3) + " " + x.page(1, 3) + " " + x.page(1, 4));
     }
 }
