@@ -893,7 +893,9 @@ public final class DviBytes {
         private static final int H = 0;
         private static final int V = 1;
         private static final int W = 2;
+        private static final int X = 3;
         private static final int Y = 4;
+        private static final int Z = 5;
         private static final int SIX = 6;
 
         /* The first codes of families of four, whose numbers have 1, 2, 3 and 4 bytes. */
@@ -1109,7 +1111,8 @@ public final class DviBytes {
         private int obeyMove() {
             boolean along = code < DOWN;
             int kind = code - (along ? RIGHT : DOWN);
-            int remembered = (along ? W : Y) + (kind >= MOVE_OLD_TWO ? 1 : 0);
+            boolean second = kind >= MOVE_OLD_TWO;
+            int remembered = along ? (second ? X : W) : (second ? Z : Y);
             int by = numberBytes > 0 ? input.signedNumber(at + 1, numberBytes) : six[remembered];
             if (kind >= MOVE_OLD_ONE) {
                 six[remembered] = by;

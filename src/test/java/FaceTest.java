@@ -8,10 +8,16 @@ import java.util.TreeSet;
 /** The public face is the document's and no more, and its private methods bear other names. */
 public final class FaceTest {
     private static final String[] FACE = {
-        "void font(int,int,int,int,long,long,int)", "void width(int,int,int)", "void count(int,int)",
-        "void begin(int,int)", "int put(int,int,int,int)", "int rule(int,int,int,int)", "int ship()", "int close()",
-        "int size()", "int out(int)", "boolean feed(long,int)", "boolean keep(int)", "int copy()", "int read()",
-        "int about(int)", "int mark(int,int)", "int page(int,int)", "int told(int,int)"};
+        "void font(int,int,int,int,long,long,int) IllegalArgumentException IllegalStateException",
+        "void width(int,int,int) IllegalArgumentException", "void count(int,int) IllegalArgumentException",
+        "void begin(int,int) IllegalArgumentException",
+        "int put(int,int,int,int) IllegalArgumentException UnsupportedOperationException",
+        "int rule(int,int,int,int) IllegalArgumentException UnsupportedOperationException",
+        "int ship() IllegalStateException ArithmeticException UnsupportedOperationException",
+        "int close() IllegalStateException", "int size()", "int out(int) IndexOutOfBoundsException",
+        "boolean feed(long,int)", "boolean keep(int)", "int copy()", "int read()",
+        "int about(int) IndexOutOfBoundsException", "int mark(int,int) IndexOutOfBoundsException",
+        "int page(int,int) IndexOutOfBoundsException", "int told(int,int) IndexOutOfBoundsException"};
 
     public static void main(String[] args) {
         Set<String> due = new TreeSet<>(Set.of(FACE));
@@ -30,8 +36,8 @@ public final class FaceTest {
                     () -> Modifier.isPublic(m.getModifiers()) || hidden);
         }
         for (Field f : DviBytes.class.getDeclaredFields()) {
-            Expect.same(f.getName() + " is private, or NONE", true,
-                    () -> Modifier.isPrivate(f.getModifiers()) || f.getName().equals("NONE"));
+            Expect.same(f + " is private, or NONE", true, () -> Modifier.isPrivate(f.getModifiers())
+                    || f.toString().equals("public static final int DviBytes.NONE"));
         }
         Constructor<?>[] made = DviBytes.class.getDeclaredConstructors();
         Expect.same("constructors", 1, () -> made.length);
@@ -48,6 +54,10 @@ public final class FaceTest {
         for (int i = 0; i < types.length; i++) {
             text.append(i > 0 ? "," : "").append(types[i].getName());
         }
-        return text.append(")").toString();
+        text.append(")");
+        for (Class<?> thrown : m.getExceptionTypes()) {
+            text.append(" ").append(thrown.getSimpleName());
+        }
+        return text.toString();
     }
 }
